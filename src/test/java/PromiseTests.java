@@ -901,7 +901,6 @@ public final class PromiseTests {
 
     private static void rain() {
         x = Due.of(WAR, LINES);
-        int[] draws = {0, 0, 0, 0, 0, 0};
         long state = 7;
         int wet = 0;
         int dry = 0;
@@ -1056,8 +1055,13 @@ public final class PromiseTests {
         due("paste overlapping", x.paste(0, 0, 0, 1, 5), 0);
         due("as they were", x.paste(0, 1, 2, 0, 3), 0);
         due("the same again", x.fit(2, 0, 1999, 0), 3);
+        // the row is 1 1 3 0 1 3 now: from the fourth on land 0 in its month 3, which it has not
         due("the second as it was", x.paste(0, 3, 2, 0, 3), 0);
-        due("a land 0", x.fits(2, 0, 1999), x.fits(2, 0, 1999));
+        due("a month that is none", x.fits(2, 0, 1999), 0);
+        due("the first stays", x.paste(0, 0, 2, 0, 3), 0);
+        due("land 1 has no month 3", x.fits(2, 0, 1999), 0);
+        due("put back", x.paste(0, 1, 2, 0, 3), 0);
+        due("land 1 on weekday 0", x.fit(2, 0, 1999, 1), 8);
         due("paste slot", x.paste(4, 0, 0, 0, 1), -2);
         due("paste to", x.paste(0, 0, 4, 0, 1), -2);
         due("paste nothing", x.paste(0, 0, 3, 0, 1), -6);
