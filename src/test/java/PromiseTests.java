@@ -15,6 +15,7 @@ public final class PromiseTests {
         newObject();
         tape();
         warAndFaults();
+        faultsOfCutTapes();
         faultsOfLands();
         faultsOfFeastsAndTruces();
         tooMany();
@@ -135,10 +136,32 @@ public final class PromiseTests {
         fault("\n war\nrain0 ; \n", 0, -1);
         due("rain 0", x.count(3), 0);
         due("no lands", x.count(0), 0);
+        fault("warz rain 5;", 1, 0);
+        fault("war rain 100;", 0, -1);
+        fault("war rain 5;", 0, -1);
         due("empty tape", x.war(), 0);
+        due("no rain without a war", x.count(3), 0);
         due("no war", x.who(0), -2);
         due("no lines", x.count(4), 0);
         due("no fault", x.fault(0), 0);
+    }
+
+    /** What was cut from the tape is not read, be it blank, letter or digit. */
+    private static void faultsOfCutTapes() {
+        x = new TwoCalendars();
+        int[][] cuts = {{2, 0}, {3, 3}, {6, 4}, {8, 8}, {9, 9}, {11, 11}, {12, 12}, {13, 13}};
+        for (int[] cut : cuts) {
+            Due.feed(x, "war rain 100 ;");
+            due("cut at " + cut[0], x.end(cut[0]), cut[0]);
+            due("war cut at " + cut[0], x.war(), -4);
+            due("kind cut at " + cut[0], x.fault(0), 1);
+            due("place cut at " + cut[0], x.fault(1), cut[1]);
+        }
+        Due.feed(x, "war rain 100;");
+        due("cut behind the first digit", x.end(10), 10);
+        due("fed on", x.feed(0x3b202020, 0x20202020, 0x20202020, 0x20202020, 0x20202020), 30);
+        due("war rain 1;", x.war(), 1);
+        due("rain", x.count(3), 1);
     }
 
     private static void faultOfLine(String line, int kind, int place) {
@@ -170,6 +193,8 @@ public final class PromiseTests {
         faultOfLine("land from 0 week 9 rests 510 year 60 0;", 2, 37);
         faultOfLine("land from 0 week 9 rests 510 year 1 2 3 4 5 6 7 8;", 0, 0);
         faultOfLine("land from 0 week 9 rests 510 year 1 2 3 4 5 6 7 8 9;", 3, 50);
+        faultOfLine("land from 0 week 9 rests 510 year 1 2 3 4 5 6 7 8 1;", 3, 50);
+        faultOfLine("land from 0 week 9 rests 510 year 1 2 3 4 5 6 7 8 60;", 3, 50);
         faultOfLine("land from 0 week 9 rests 510 year 1 2 3 4 5 6 7 8 61;", 2, 50);
         faultOfLine("land from 0 week 9 rests 510 year 1 2 3 4 5 6 7 8 0;", 2, 50);
         faultOfLine("land from 0 week 9 rests 510 year 1 2 3 4 5 6 7 61 9;", 2, 48);
@@ -529,6 +554,13 @@ public final class PromiseTests {
         due("older of none", x.older(2, 0), -1);
         due("apart of none", x.apart(2), -1);
         due("idle of none", x.idle(2), 0);
+        due("fifteen orders", x.row(2, 3, 60), 0);
+        due("older than the fifteenth", x.older(2, 14), 0);
+        due("no sixteenth", x.older(2, 15), -1);
+        due("the oldest of fifteen", x.oldest(2), 0);
+        due("the last is younger", x.write(2, 59, 2), 0);
+        due("older than the last", x.older(2, 14), 14);
+        due("the last is idle", x.idle(2), 1);
         fill(2, 0, 1, 0, 0, 0);
         due("oldest of one", x.oldest(2), 0);
         due("apart of one", x.apart(2), 0);
@@ -594,6 +626,10 @@ public final class PromiseTests {
         due("the date", x.fit(3, 0, 1999, 0), 1999);
         fill(3, 3, 0, 0, 4294967296L);
         due("a year too large", x.fits(3, 0, 1999), 0);
+        due("twenty sights", x.row(3, 0, 60), 0);
+        due("a year of them", x.fits(3, 0, 1999), 31);
+        due("another year", x.write(3, 59, 1), 0);
+        due("no such day", x.fits(3, 0, 1999), 0);
     }
 
     private static void seenAll(String what, int slot, int from, int to, int want) {
@@ -753,6 +789,8 @@ public final class PromiseTests {
         due("begins beyond the span", x.begins(0, 1, 7, 7, 3), 2);
         due("begin to the last", x.begin(0, 1, 1998, 1999, 200), 1998);
         due("begins to the last", x.begins(0, 1, 1998, 1999, 200), 1);
+        due("begin with the last day", x.begin(0, 1, 1997, 1998, 2), 1998);
+        due("begins with the last day", x.begins(0, 1, 1997, 1998, 2), 1);
         due("begin of none", x.begin(0, 1, 5, 6, 1), 5);
         due("begins of none", x.begins(0, 1, 5, 6, 1), 0);
         due("begin 0", x.begin(0, 1, 0, 12, 0), -2);
@@ -893,6 +931,15 @@ public final class PromiseTests {
         due("two feasts", x.count(1), 2);
         due("three truces", x.count(2), 3);
         due("feast 1 days", x.feast(1, 3), 2);
+        for (int i = 0; i < 30; i++) {
+            due("found " + i, x.found(1, 0, 0, 1), 2);
+            due("ends " + i, x.ends(1), 2);
+        }
+        due("room for a truce, but sixty changes", x.grant(1, 0, 0), -3);
+        due("no span is told ahead of sixty", x.grant(1, 1, 0), -2);
+        due("room for a feast, but sixty changes", x.found(1, 0, 0, 1), -3);
+        due("sixty still", x.count(6), 60);
+        due("three truces still", x.count(2), 3);
         x = Due.of("war rain 0;", 1);
         due("undo with no change", x.undo(), -5);
         x.war();
