@@ -1035,34 +1035,28 @@ public final class TwoCalendars {
                 start++;
             }
             stop = start;
-            if (start >= size) {
-                kind = END;
-            } else if (bytes[start] >= 'a' && bytes[start] <= 'z') {
-                kind = WORD;
-                stepOverLetters();
-            } else if (bytes[start] >= '0' && bytes[start] <= '9') {
-                kind = NUMBER;
-                stepOverDigits();
-            } else {
-                kind = bytes[start] == ';' ? SEMICOLON : STRANGE;
-                stop = start + 1;
-            }
-        }
-
-        void stepOverLetters() {
+            value = 0;
             while (stop < size && bytes[stop] >= 'a' && bytes[stop] <= 'z') {
                 stop++;
             }
-        }
-
-        void stepOverDigits() {
-            value = 0;
+            if (stop > start) {
+                kind = WORD;
+                return;
+            }
             while (stop < size && bytes[stop] >= '0' && bytes[stop] <= '9') {
                 // past every bound already: more digits must not wrap around
                 if (value < HUGE) {
                     value = value * 10 + bytes[stop] - '0';
                 }
                 stop++;
+            }
+            if (stop > start) {
+                kind = NUMBER;
+            } else if (start >= size) {
+                kind = END;
+            } else {
+                kind = bytes[start] == ';' ? SEMICOLON : STRANGE;
+                stop = start + 1;
             }
         }
     }
