@@ -5,6 +5,7 @@ import java.util.Arrays;
 final class Due {
     private static int wrong = 0;
     private static int asked = 0;
+    private static String about = "";
 
     private Due() {
     }
@@ -14,9 +15,18 @@ final class Due {
         if (got != want) {
             wrong++;
             if (wrong <= 50) {
-                System.out.println(call + " answered " + got + ", due is " + want);
+                System.out.println(about + call + " answered " + got + ", due is " + want);
             }
         }
+    }
+
+    /** What the questions from here on are about, told ahead of a wrong answer. */
+    static void about(String sentence) {
+        about = sentence.isEmpty() ? "" : sentence + ": ";
+    }
+
+    static int asked() {
+        return asked;
     }
 
     static void isTrue(String what, boolean holds) {

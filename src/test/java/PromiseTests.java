@@ -962,7 +962,7 @@ public final class PromiseTests {
         }
         due("wet days", x.drawn(7, 0, 12, 0), wet);
         due("dry days", x.drawn(7, 0, 12, 1), dry);
-        // seed 0: 12345, then 1406932606, 654583775, 1449466924: draws 0, 67, 88, 17
+        // seed 0: 12345, then 1406932606, 654583775, 1449466924: draws 0, 68, 88, 17
         due("first draw of seed 0", x.drawn(0, 0, 1, 0), 1);
         due("two draws of seed 0", x.drawn(0, 0, 2, 0), 1);
         due("four draws of seed 0", x.drawn(0, 0, 4, 0), 2);
