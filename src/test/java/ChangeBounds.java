@@ -36,6 +36,7 @@ final class ChangeBounds {
         images();
         imagesRefused();
         backs();
+        backsToOtherWars();
         backsRefused();
     }
 
@@ -48,6 +49,7 @@ final class ChangeBounds {
     private static void found() {
         Sentences.of(51, "A FEAST comes (for n days): its number.");
         x = Due.of(TWO, 3);
+        due("it MAY ahead of that", x.why(0, 29), 0);
         due("the first", x.found(0, 1, 19, 9), 0);
         int[] parts = {0, 1, 19, 9};
         for (int what = 0; what < 4; what++) {
@@ -145,6 +147,7 @@ final class ChangeBounds {
     private static void grants() {
         Sentences.of(52, "A TRUCE comes: its number.");
         x = Due.of(TWO + "truce 1 from 3 to 4;", 4);
+        due("it MAY ahead of that", x.why(0, 5), 0);
         due("the next", x.grant(0, 5, 7), 1);
         int[] parts = {0, 5, 7};
         for (int what = 0; what < 3; what++) {
@@ -209,6 +212,7 @@ final class ChangeBounds {
     private static void ends() {
         Sentences.of(53, "The latest FEAST of a LAND ends (is none any more; later ones move down): its number.");
         x = Due.of(TWO + "feast 0 0 1 for 1;feast 1 0 0 for 2;feast 0 0 3 for 3;feast 1 0 0 for 4;", 7);
+        due("it is on ahead of that", x.why(0, 3), 3);
         due("the latest of LAND 0", x.ends(0), 2);
         due("three are left", x.count(1), 3);
         due("the later one moved down", x.feast(2, 3), 4);
@@ -273,19 +277,21 @@ final class ChangeBounds {
 
     private static void undo() {
         Sentences.of(54, "The latest change by found(), grant(), ends() is taken back: how many there are.");
-        x = Due.of(TWO + "feast 0 0 1 for 1;feast 1 0 0 for 2;feast 0 0 3 for 3;", 6);
+        x = Due.of(TWO + "feast 1 0 0 for 2;feast 0 0 1 for 1;feast 0 1 3 for 4;feast 1 0 0 for 5;", 7);
         String first = Stays.of(x);
-        due("ends", x.ends(1), 1);
-        due("found", x.found(0, 0, 7, 2), 2);
+        due("ends", x.ends(0), 2);
+        due("found", x.found(0, 0, 7, 2), 3);
         due("grant", x.grant(0, 6, 6), 0);
         due("three changes", x.count(6), 3);
         due("grant taken back", x.undo(), 2);
         due("no TRUCE", x.count(2), 0);
         due("it MAY", x.why(0, 6), 0);
         due("found taken back", x.undo(), 1);
-        due("two FEASTS", x.count(1), 2);
+        due("three FEASTS", x.count(1), 3);
         due("it MAY there, too", x.why(0, 7), 0);
+        due("it MAY on the ended one", x.why(0, 13), 0);
         due("ends taken back", x.undo(), 0);
+        due("it is on again", x.why(0, 13), 3);
         Stays.asBefore("the WAR", x, first);
     }
 
@@ -523,6 +529,33 @@ final class ChangeBounds {
         due("back to no WAR", x.back(0), 0);
         due("there is none", x.who(0), -2);
         due("nor to undo", x.undo(), -2);
+    }
+
+    private static void backsToOtherWars() {
+        Sentences.of(59, "It is as IMAGE k has it");
+        x = Due.of("war rain 1;land from 0 week 2 rests 0 year 7 3;feast 0 1 2 for 3;truce 0 from 4 to 5;", 4);
+        due("an image of one LAND", x.image(0), 0);
+        due("it MAY", x.who(0), 1);
+        String small = Stays.of(x);
+        Due.feed(x, "war rain 99;land from 2 week 10 rests 3 year 1 2 3 4 5 6 7 8 leap 2 in 7 adds 9;" + LONG + EVER
+            + "feast 0 0 0 for 9;feast 1 0 0 for 9;truce 0 from 0 to 1999;truce 2 from 5 to 6;");
+        due("eight LINES", x.war(), 8);
+        due("a change", x.ends(0), 0);
+        due("an image of three LANDS", x.image(2), 0);
+        String large = Stays.of(x);
+        due("back to the first", x.back(0), 0);
+        Stays.asBefore("the first WAR", x, small);
+        due("a date of the first", x.date(0, 17, 1), 1);
+        due("turned back in the first", x.day(0, 3, 1, 2), 39);
+        due("the first one's period", x.period(0), 10);
+        due("back to the second", x.back(2), 0);
+        Stays.asBefore("the second WAR", x, large);
+        due("its change taken back", x.undo(), 0);
+        due("the FEAST's days", x.feast(0, 3), 9);
+        due("its LAND", x.feast(0, 0), 0);
+        due("a date of it", x.date(1, 1999, 0), 57);
+        due("turned back", x.day(1, 57, 0, 0), 1971);
+        due("its period", x.period(1), 483);
     }
 
     private static void backsRefused() {

@@ -210,6 +210,14 @@ final class DateBounds {
         due("its first day", x.why(0, 49), 3);
         due("its last day", x.why(0, 57), 3);
         due("behind it", x.why(0, 58), 0);
+        // nothing of it on the first DAY, of this LAND or the next
+        x = Due.of("war rain 0;land from 0 week 10 rests 0 year 10 40;land from 0 week 10 rests 0 year 7;", 3);
+        due("both MAY on the first DAY", x.who(0), 3);
+        due("a FEAST to begin on the last DAY", x.found(0, 1, 39, 9), 0);
+        due("it does", x.why(0, 1999), 3);
+        due("why not LAND 0 on the first DAY", x.why(0, 0), 0);
+        due("why not LAND 1 on the first DAY", x.why(1, 0), 0);
+        due("both still MAY", x.who(0), 3);
         x = Due.of("war rain 0;land from 999 week 10 rests 0 year 1;feast 0 0 0 for 9;", 3);
         due("ahead of the count", x.why(0, 998), 1);
         due("from its first DAY", x.why(0, 999), 3);

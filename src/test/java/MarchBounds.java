@@ -133,6 +133,9 @@ final class MarchBounds {
         due("n 3", x.overlap(3, 0), -1);
         due("n 4", x.overlap(4, 0), -1);
         due("far n", x.overlap(Integer.MAX_VALUE, 0), -1);
+        x = Due.of(BOTH + "truce 0 from 5 to 9;truce 1 from 9 to 12;", 5);
+        due("n 2 of two", x.overlap(2, 0), 9);
+        due("n 3 of two", x.overlap(3, 0), -1);
     }
 
     private static void overlapsRefused() {
@@ -153,6 +156,7 @@ final class MarchBounds {
         due("no TRUCES", Due.of("war rain 0;", 1).most(), 0);
         x = Due.of(BOTH + "truce 0 from 5 to 9;truce 1 from 10 to 12;", 5);
         due("one behind the other", x.most(), 1);
+        due("one is begun in another one told behind it", Due.of(BOTH + "truce 0 from 5 to 9;truce 1 from 0 to 6;", 5).most(), 2);
         due("granted over the ends of both", x.grant(0, 9, 10), 2);
         due("two", x.most(), 2);
         for (int i = 3; i < 12; i++) {
@@ -310,6 +314,12 @@ final class MarchBounds {
         for (int[] no : NO_PAIRS) {
             due("LANDS " + no[0] + " and " + no[1], x.place(no[0], no[1], 0, 1), -2);
         }
+        due("the lesser LAND may not on a DAY", x.grant(0, 7, 7), 2);
+        due("the greater one alone", x.place(1, 0, 7, 1), 1);
+        due("the lesser one not", x.place(0, 1, 7, 1), 0);
+        due("both on the next DAY, one too many", x.place(1, 0, 7, 2), 1);
+        due("the lesser one's step is the last", x.place(0, 1, 7, 2), 1);
+        due("both on the next DAY", x.place(1, 0, 7, 3), 2);
         for (int day : NO_DAYS) {
             due("on " + day, x.place(0, 1, day, 1), -2);
         }
@@ -354,6 +364,8 @@ final class MarchBounds {
         begin(100, 100, 5, 100, 5);
         begin(101, 101, 5, 101, 4);
         begin(99, 101, 3, 100, 3);
+        begin(99, 100, 5, 100, 5);
+        begin(98, 99, 5, 99, 4);
         begin(50, 60, 3, 50, 0);
         for (int n : new int[] {-1, Integer.MIN_VALUE, Integer.MAX_VALUE}) {
             begin(0, 1999, n, -2, -2);
@@ -414,6 +426,11 @@ final class MarchBounds {
         // forty turns of one and two stones are twenty DAYS of both
         play(0, 1, 1980, 40, 0, 1);
         play(0, 1, 1980, 39, 1, 1);
+        // land 0 alone on the first DAY: its second turn is the first with the other one
+        x = Due.of(BOTH + "truce 1 from 0 to 0;", 4);
+        play(0, 1, 0, 40, 0, 2);
+        play(0, 1, 0, 39, 0, 1);
+        play(0, 1, 0, 3, 0, 1);
     }
 
     private static void gamesOfNobody() {

@@ -194,6 +194,11 @@ final class RowBounds {
         for (int i = 0; i < 4; i++) {
             due("older(0, " + i + ")", x.older(0, i), older[i]);
         }
+        fill(1, 1, 0, 0, 0, 0, 0, 0, 0, 2, 0, 0, 0, 1);
+        int[] behindTheFirst = {0, 2, 1};
+        for (int i = 0; i < 3; i++) {
+            due("older(1, " + i + ")", x.older(1, i), behindTheFirst[i]);
+        }
         due("none such above", x.older(0, 4), -1);
         due("none such below", x.older(0, -1), -1);
         for (int far : FAR) {
@@ -244,6 +249,14 @@ final class RowBounds {
         due("two", x.idle(0), 2);
         due("to the next DAY", x.grant(1, 6, 6), 1);
         due("three", x.idle(0), 3);
+        fill(0, 1, 0, 0, 0, 5);
+        due("one of one", x.idle(0), 1);
+        due("fifteen", x.row(0, 1, 60), 0);
+        due("none of fifteen", x.idle(0), 0);
+        due("the last of fifteen", x.write(0, 59, 1), 0);
+        due("one of fifteen", x.idle(0), 1);
+        fill(0, 1, 0, 0, 0, 0);
+        due("none of one behind them", x.idle(0), 0);
         due("nothing", x.idle(1), -6);
         for (int slot : NO_SLOTS) {
             due("SLOT " + slot, x.idle(slot), -2);
@@ -369,6 +382,7 @@ final class RowBounds {
         for (int what : new int[] {-1, 2, Integer.MIN_VALUE, Integer.MAX_VALUE}) {
             due("what " + what, x.sure(0, 0, 9, what), -2);
         }
+        due("all on one DAY again", x.sure(0, 6, 6, 0), 3);
         fill(0, 0, 0, 4, 7);
         due("all without any", x.sure(0, 0, 1999, 0), 0);
         due("some without any", x.sure(0, 0, 1999, 1), 0);

@@ -153,6 +153,7 @@ final class SpanBounds {
         due("six and six", x.waiting(3, 0, 1994), 0);
         due("six and seven", x.waiting(3, 0, 1995), 1989);
         due("on the last DAY alone", x.waiting(3, 1999, 1999), 1999);
+        due("there is none behind one", x.waiting(3, 8, 8), -1);
         due("set 4", x.waiting(4, 0, 1), -2);
         due("set -1", x.waiting(-1, 0, 1), -2);
         for (int[] no : NO_SPANS) {
@@ -205,6 +206,10 @@ final class SpanBounds {
         due("on the last DAY", x.meets(0, 3, 2, 1, 1993), 1999);
         due("from the last DAY on", x.meets(0, 3, 2, 1, 1999), 1999);
         due("not on the last DAY", x.meets(0, 2, 2, 1, 1999), -1);
+        x = Due.of("war rain 0;land from 0 week 4 rests 0 year 5;land from 0 week 5 rests 0 year 7;land from 0 week 10 rests 0 year 9;", 4);
+        due("on 1980", x.meets(0, 0, 1, 0, 1961), 1980);
+        due("on 2000", x.meets(0, 0, 1, 0, 1981), -1);
+        due("on 2000 from the last DAY on", x.meets(1, 0, 2, 0, 1999), -1);
     }
 
     private static void meetsRefused() {
@@ -262,6 +267,11 @@ final class SpanBounds {
         due("none on the last DAY", x.alike(0, 2, 1999), -1);
         due("the last one", x.alike(2, 0, 1998), 1998);
         due("never", x.alike(1, 2, 0), -1);
+        x = Due.of("war rain 0;land from 0 week 2 rests 0 year 10;land from 0 week 2 rests 0 year 20;land from 0 week 2 rests 0 year 40;", 4);
+        due("the last one of YEARS of 10 and 20", x.alike(0, 1, 1980), 1980);
+        due("its last DAY", x.alike(0, 1, 1989), 1989);
+        due("on 2000", x.alike(0, 1, 1990), -1);
+        due("on 2000, of 20 and 40", x.alike(1, 2, 1999), -1);
     }
 
     private static void alikesRefused() {
@@ -448,6 +458,9 @@ final class SpanBounds {
             + " NONE, -2 likewise.");
         // MAY on days 1, 3, .. of 5 and 4 leap days
         x = Due.of("war rain 0;land from 0 week 10 rests 341 year 5 1 leap 2 in 0 adds 4;", 2);
+        due("the days, asked first", x.founded(0, 0, 0, 1, 4), 1 << 1 | 1 << 4);
+        due("the days of another length", x.founded(0, 0, 0, 1, 7), 1 << 1);
+        due("their number then", x.saints(0, 0, 0, 1, 4), 2);
         saint(0, 0, 0, 1, 1, -1, -1);
         saint(0, 0, 0, 1, 2, -1, -1);
         saint(0, 0, 0, 1, 3, -1, -1);

@@ -36,6 +36,7 @@ final class TextBounds {
         cut();
         cutRefused();
         warRead();
+        warsByTurns();
         noWarThen();
         warRefused();
         faultTold();
@@ -338,6 +339,7 @@ final class TextBounds {
             String after = FULL.substring(before.length() + tokens[i].length());
             faulty(1, before + "^nothing" + after);
             faulty(1, before + "^#" + after);
+            otherWords(before, tokens[i], after);
             boolean isNumber = Character.isDigit(tokens[i].charAt(0));
             // a further number is a MONTH more, and a LINE may end behind a MONTH
             if (!isNumber && !tokens[i].equals("leap")) {
@@ -354,6 +356,20 @@ final class TextBounds {
                 faulty(1, before + "\n^");
             }
         }
+    }
+
+    /** A word with another first, another last letter, one less, one more. */
+    private static void otherWords(String before, String word, String after) {
+        if (!Character.isLetter(word.charAt(0))) {
+            return;
+        }
+        int last = word.length() - 1;
+        faulty(1, before + "^" + (word.charAt(0) == 'q' ? 'p' : 'q') + word.substring(1) + after);
+        faulty(1, before + "^" + word.substring(0, last) + "q" + after);
+        faulty(1, before + "^" + word.substring(0, last) + after);
+        faulty(1, before + "^" + word.substring(1) + after);
+        faulty(1, before + "^" + word + "s" + after);
+        faulty(1, before + "^" + word + word + after);
     }
 
     private static void secondKind() {
@@ -506,6 +522,32 @@ final class TextBounds {
         due("nothing to undo", x.undo(), -5);
     }
 
+    /** Nothing of a WAR, read or refused, is left in those behind it. */
+    private static void warsByTurns() {
+        Sentences.of(4, "The TAPE (empty then) is the WAR (in place of another)");
+        String full = "war rain 9;" + "land from 2 week 10 rests 3 year 1 2 3 4 5 6 7 8 leap 2 in 7 adds 9;".repeat(3)
+            + "feast 0 0 0 for 9;feast 1 0 0 for 9;truce 0 from 0 to 1999;truce 2 from 5 to 6;";
+        x = Due.of("war rain 0;" + LAND, 2);
+        String small = Stays.of(x);
+        Due.feed(x, full);
+        due("eight LINES", x.war(), 8);
+        due("a change", x.grant(0, 7, 7), 2);
+        due("LAND 1 and LAND 2 on 20", x.who(20), 6);
+        Due.feed(x, "war rain 0;" + LAND);
+        due("two LINES", x.war(), 2);
+        Stays.asBefore("the WAR", x, small);
+        Due.feed(x, full + "#");
+        due("refused", x.war(), -4);
+        Due.feed(x, "war rain 0;" + LAND);
+        due("two LINES again", x.war(), 2);
+        Stays.asBefore("the WAR again", x, small);
+        due("nothing to undo", x.undo(), -5);
+        due("no leap", x.land(0, 4), 0);
+        due("the DAY of a date", x.day(0, 5, 0, 0), 5);
+        due("the date of a DAY", x.date(0, 1999, 0), 1999);
+        due("the period", x.period(0), 2);
+    }
+
     private static void noWarThen() {
         Sentences.of(4, "(0: there is none then)");
         x = new TwoCalendars();
@@ -522,6 +564,14 @@ final class TextBounds {
         due("who(0)", x.who(0), -2);
         due("may(0, 0)", x.may(0, 0), -2);
         due("undo()", x.undo(), -2);
+        for (int i = 0; i < 2; i++) {
+            Due.feed(x, HEAD + LAND);
+            due("a WAR again", x.war(), 2);
+        }
+        due("none again", x.war(), 0);
+        for (int what = 0; what < 8; what++) {
+            due("count(" + what + ") again", x.count(what), 0);
+        }
     }
 
     private static void warRefused() {
