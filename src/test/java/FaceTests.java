@@ -34,10 +34,23 @@ public final class FaceTests {
         "int write(int,int,long)", "int paste(int,int,int,int,int)"};
 
     public static void main(String[] args) throws IOException {
+        document(Files.readString(Path.of("../shared/DOC.md")));
         face();
         inside();
         text(Files.readString(Path.of("src/main/java/TwoCalendars.java")));
         Due.finish("FaceTests");
+    }
+
+    /** The face that the tests look for is the one that the document's code block has, now as when they were written. */
+    private static void document(String doc) {
+        Set<String> told = new TreeSet<>();
+        Matcher method = Pattern.compile("(?m)^    public (int|long) (\\w+)\\((.*)\\);$").matcher(doc);
+        while (method.find()) {
+            told.add(method.group(1) + " " + method.group(2) + "(" + method.group(3).replaceAll(" \\w+(?=,|$)", "").replace(" ", "") + ")");
+        }
+        Due.isTrue("the document's methods " + told, told.equals(new TreeSet<>(List.of(FACE))));
+        Matcher constant = Pattern.compile("(?m)^    public static final int NONE = (-?\\d+);$").matcher(doc);
+        Due.is("the document's NONE", TwoCalendars.NONE, constant.find() ? Integer.parseInt(constant.group(1)) : 0);
     }
 
     private static void face() {
